@@ -362,6 +362,12 @@ public final class PromisesTest {
         x.say('1');
         due("mended", x.done(), 2);
         due("no breath, but below", x.told(2), 3);
+        StringBuilder sixty = new StringBuilder();
+        for (int i = 0; i < 30; i++) {
+            sixty.append("~").append(i % 10);
+        }
+        due("a full pad", write(x, sixty.toString()).done(), 30);
+        due("its last sign", x.told(5), 9);
         write(x, ".");
         x.done();
         due("who had none rises", x.told(2), 1);
@@ -500,6 +506,12 @@ public final class PromisesTest {
         promise = 15;
         BubbleHouse x = new BubbleHouse();
         due("nobody", x.falls(), 0);
+        x.dive(0, 0, 7);
+        due("the first alone", x.falls(), 8);
+        x.leave(0);
+        x.dive(6, 0, 7);
+        due("the last alone", x.falls(), 8);
+        x.leave(6);
         x.dive(2, 0, 0);
         due("without breath", x.falls(), 1);
         x.dive(4, 0, 99);
@@ -719,6 +731,7 @@ public final class PromisesTest {
         due("6 on alone", x.orders(1, 6), 0);
         x.hours(0, 1);
         due("behind 23 comes 0", x.orders(2, 23), 1);
+        due("hour 0", x.orders(2, 0), 1);
         x.hours(1, 1 << 23);
         due("one order alone", x.orders(2, 23), 1);
         due("not from 22", x.orders(2, 22), 0);
@@ -917,7 +930,7 @@ public final class PromisesTest {
         days(x, 0, 1, 0, 12, 2);
         // seed 3: x = 299, the tide is 7
         days(x, 3, 1, 0, 14, 3);
-        // seed 2: x = 224, a minute; seed 6: x = 524, C makes one of 9 and can not; seed 10: x = 824, a minute
+        // seed 2: x = 224, a minute; seed 6: x = 524, C would make a bubble of 9 and can not
         days(x, 2, 1, 0, 12, 2);
         days(x, 6, 1, 0, 14, 3);
         // seed 886: x = 66524 less 65537 = 987, the tide
@@ -926,6 +939,9 @@ public final class PromisesTest {
         days(x, 874, 1, 0, 14, 3);
         // seed 14: x = 1124, member 140 left over by 7 = A, of size 1 and 17 left over by 9 = 9
         days(x, 14, 1, 1, 5, 3);
+        // seed 9999: x = 749999 less 11 times 65537 = 29092, member 3636 left over by 7 = D
+        days(x, 9999, 1, 0, 14, 3);
+        days(x, 9999, 99, 2, 0, 0);
         x.dive(0, 2, 8);
         days(x, 14, 1, 0, 13, 3);
         sit(x, "A1");
@@ -1002,12 +1018,14 @@ public final class PromisesTest {
         due("not kept", x.restore(1), STATE);
         due("restore(-1)", x.restore(-1), OUTSIDE);
         due("restore(2)", x.restore(2), OUTSIDE);
+        x.hours(0, 78);
         x.hours(3, 77);
         x.seen(3, 4, 2);
         sit(x, "A1B2~4.");
         String kept = all(x);
         x.image(1);
         due("the other one is not kept", x.restore(0), STATE);
+        x.hours(0, 2);
         x.hours(3, 1);
         x.forget();
         x.seen(1, 1, 1);
