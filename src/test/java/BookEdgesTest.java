@@ -46,6 +46,15 @@ public final class BookEdgesTest extends Edges {
         judged(Edges::minute99, "", NONE, NONE);
     }
 
+    static void promise9_judge_anEmptyPadForgetsWhatCouldNotBe() {
+        BubbleHouse x = write(three(), "A1B6");
+        due(x.judge(1), 2);
+        x.wipe();
+        due(x.judge(0), NONE);
+        due(x.judge(1), NONE);
+        due(write(x, "A1").judge(0), NONE);
+    }
+
     static void promise9_judge_whatBelow0OrAbove1IsOutside() {
         for (int what : new int[] {-1, 2, LEAST, MOST}) {
             refused(OUTSIDE, Edges::busy, x -> x.judge(what));
@@ -163,6 +172,15 @@ public final class BookEdgesTest extends Edges {
         due(fresh().done(), 0);
         unchanged(Edges::fresh, x -> x.done());
         unchanged(Edges::minute99, x -> x.done());
+    }
+
+    static void promise10_done_anEmptyPadForgetsWhatCouldNotBe() {
+        BubbleHouse x = write(three(), "B6");
+        due(x.done(), NO);
+        x.wipe();
+        due(x.done(), 0);
+        due(x.behind(1, 0), 5);
+        due(x.then(0), 7);
     }
 
     static void promise10_done_aFullPadIsAllDone() {
@@ -510,24 +528,6 @@ public final class BookEdgesTest extends Edges {
 
     // ---- promise 13: word
 
-    /** 32 words of SIZE 1, in minutes 1 to 4, at PLACES 0 to 9, made from the last to the first. */
-    private static BubbleHouse bookOf32Words() {
-        BubbleHouse x = one(0, 0, 99);
-        x.set(0, 4);
-        sit(x, "~3A1~1A1");
-        x.set(0, 3);
-        sit(x, "~3A1~2A1~1A1~8A1~0A1~7A1~9A1~5A1~4A1~6A1");
-        x.dive(0, 0, 99);
-        x.set(0, 2);
-        for (int i = 9; i >= 0; i--) {
-            x.dive(0, i, 99);
-            sit(x, "~0A1");
-        }
-        x.dive(0, 0, 99);
-        x.set(0, 1);
-        return sit(x, "~9A1~8A1~7A1~6A1~5A1~4A1~3A1~2A1~1A1~0A1");
-    }
-
     static void promise13_word_anEmptyBookHas0Words() {
         BubbleHouse x = three();
         for (int what = 0; what <= 2; what++) {
@@ -567,15 +567,42 @@ public final class BookEdgesTest extends Edges {
     }
 
     static void promise13_word_aFullBookOf32Words() {
-        BubbleHouse x = bookOf32Words();
-        due(x.told(7), 32);
-        due(x.word(-1, 0), 32);
-        for (int i = 0; i < 32; i++) {
-            due(x.word(i, 0), 1 + i / 10);
-            due(x.word(i, 1), i == 30 ? 2 : i == 31 ? 4 : i % 10);
-            due(x.word(i, 2), 1);
+        are32Words(bookOf32Words());
+    }
+
+    static void promise13_word_aFullBookMadeFromTheLastToTheFirst() {
+        BubbleHouse x = fresh();
+        for (int i = 31; i >= 0; i--) {
+            makeWord(x, i);
         }
-        due(x.word(32, 0), UNKNOWN);
+        are32Words(x);
+    }
+
+    static void promise13_word_the32ndBubbleMayBeAnyWord() {
+        for (int last = 0; last < 32; last++) {
+            BubbleHouse x = fresh();
+            for (int i = 0; i < 32; i++) {
+                if (i != last) {
+                    makeWord(x, i);
+                }
+            }
+            makeWord(x, last);
+            are32Words(x);
+        }
+    }
+
+    static void promise13_word_the32ndBubbleMayJoinAnyWord() {
+        for (int join = 0; join < 31; join++) {
+            BubbleHouse x = fresh();
+            for (int i = 0; i < 31; i++) {
+                makeWord(x, i);
+            }
+            makeWord(x, join);
+            due(x.told(7), 32);
+            due(x.word(-1, 0), 31);
+            due(x.word(join, 2), 2);
+            due(x.word(31, 0), UNKNOWN);
+        }
     }
 
     static void promise13_word_aFullBookOfOneWordOfSize288() {
@@ -737,8 +764,8 @@ public final class BookEdgesTest extends Edges {
 
     static void promise14_votes_ofAFullBook() {
         counted(bookOf32Words(), 0, 999, 32, 0);
-        counted(bookOf32Words(), 4, 4, 2, 0);
-        counted(bookOf32Words(), 1, 1, 10, 0);
+        counted(bookOf32Words(), 14, 14, 2, 0);
+        counted(bookOf32Words(), 11, 11, 10, 0);
         counted(fullBook(), 0, 999, 0, 1);
     }
 

@@ -220,6 +220,32 @@ abstract class Edges {
         return x;
     }
 
+    /** The i-th of 32 words: ten a minute from minute 11 on, one a PLACE. */
+    static void makeWord(BubbleHouse x, int i) {
+        x.dive(0, i % 10, 99);
+        x.set(0, 11 + i / 10);
+        sit(x, "A1");
+    }
+
+    static BubbleHouse bookOf32Words() {
+        BubbleHouse x = fresh();
+        for (int i = 0; i < 32; i++) {
+            makeWord(x, i);
+        }
+        return x;
+    }
+
+    static void are32Words(BubbleHouse x) {
+        due(x.told(7), 32);
+        due(x.word(-1, 0), 32);
+        for (int i = 0; i < 32; i++) {
+            due(x.word(i, 0), 11 + i / 10);
+            due(x.word(i, 1), i % 10);
+            due(x.word(i, 2), 1);
+        }
+        due(x.word(32, 0), UNKNOWN);
+    }
+
     // ---- nothing has changed
 
     static void refused(int due, Start start, Call call) {

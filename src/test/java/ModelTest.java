@@ -96,7 +96,7 @@ public final class ModelTest {
                 case "word": return new int[] {from(-1, 12), from(0, 2)};
                 case "votes": return new int[] {from(0, 60), from(20, 150), from(0, 1)};
                 case "speak": return new int[] {
-                    from(0, 6), from(0, 9), house.told(3) + from(0, 45), from(0, 2)};
+                    from(0, 6), from(0, 9), model.water.minute + from(0, 45), from(0, 2)};
                 case "laws": return new int[] {digits(), digits(), from(0, 30), from(0, 2)};
                 case "power": return new int[] {from(0, 6)};
                 case "held": return new int[] {someBelow(), from(0, 1)};
@@ -163,7 +163,7 @@ public final class ModelTest {
         }
 
         private int someBelow() {
-            return random.nextInt(6) == 0 ? from(0, 127) : house.told(2) & random.nextInt(128);
+            return random.nextInt(6) == 0 ? from(0, 127) : model.water.belowBits() & random.nextInt(128);
         }
 
         private long answer(String name, int[] a) {

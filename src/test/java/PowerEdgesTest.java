@@ -140,7 +140,7 @@ public final class PowerEdgesTest extends Edges {
         notSpoken(one(0, 0, 5), 0, 0, 2);
     }
 
-    static void promise16_speak_theLeastSizeNotTheLeastWait() {
+    static void promise16_speak_theLeastSizeAndHowLongHeWaitsForThat() {
         BubbleHouse x = one(0, 0, 99);
         spoken(x, 0, 0, 11, 8, 2, 5);
         spoken(x, 0, 0, 12, 9, 1, 0);

@@ -555,11 +555,9 @@ public final class PromisesTest {
 
     private static void spoken(BubbleHouse x, int member, int place, int minute, int sizes, int least, int wait) {
         String call = "speak(" + member + ", " + place + ", " + minute;
-        String before = all(x);
         due(call + ", 0)", x.speak(member, place, minute, 0), sizes);
         due(call + ", 1)", x.speak(member, place, minute, 1), least);
         due(call + ", 2)", x.speak(member, place, minute, 2), wait);
-        same(call, before, x);
     }
 
     private static void spokenWrongly(BubbleHouse x) {

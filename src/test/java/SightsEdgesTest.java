@@ -862,6 +862,31 @@ public final class SightsEdgesTest extends Edges {
         due(x.whose(), 9);
     }
 
+    static void promise30_restore_theEighthSightCounts() {
+        BubbleHouse x = three();
+        for (int i = 1; i <= 7; i++) {
+            x.seen(3, 4, 2);
+        }
+        x.seen(3, 4, 7);
+        x.image(0);
+        x.forget();
+        for (int i = 1; i <= 8; i++) {
+            x.seen(3, 4, 2);
+        }
+        due(x.whose(), 3);
+        x.restore(0);
+        due(x.told(6), 8);
+        due(x.whose(), 0);
+    }
+
+    static void promise30_restore_aFullBookOf32Words() {
+        BubbleHouse x = bookOf32Words();
+        x.image(0);
+        x.close();
+        x.restore(0);
+        are32Words(x);
+    }
+
     // ---- promise 31: told
 
     static void promise31_told_whatIsNotToldOfIsOutside() {
