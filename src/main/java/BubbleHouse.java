@@ -651,7 +651,7 @@ public final class BubbleHouse {
         }
     }
 
-    /** All that a sitting can change. */
+    /** All that a sitting looks at or changes. */
     private static final class Lagoon {
         private final int[] places = new int[MEMBERS];
         private final int[] breaths = new int[MEMBERS];
